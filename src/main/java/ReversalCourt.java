@@ -284,8 +284,12 @@ public final class ReversalCourt {
         }
 
         int type(char letter) {
-            if (fault == NONE && !takes(letter)) {
-                fault = length;
+            if (fault == NONE) {
+                if (!takes(letter)) {
+                    fault = length;
+                } else if (due == NOTHING) {
+                    finish();
+                }
             }
             length++;
             return length;
@@ -316,11 +320,11 @@ public final class ReversalCourt {
                 case RELATION:
                     return takesKind(letter == '<' || letter == '=', letter, RIGHT);
                 case RIGHT:
-                    return takesRight(letter);
+                    return takesLimit(letter, NOTHING);
                 case VARIABLE:
                     return takesVariable(letter);
                 case LIMIT:
-                    return takesLimit(letter);
+                    return takesLimit(letter, FORMULA);
                 case OPERATOR:
                     return takesKind(Formula.isOperator(letter), letter, FORMULA);
                 case CLOSE:
@@ -373,15 +377,6 @@ public final class ReversalCourt {
             return fits;
         }
 
-        private boolean takesRight(char letter) {
-            if (!isVariable(letter)) {
-                return false;
-            }
-            formula.limits[current] = letter - 'x';
-            finish(current);
-            return true;
-        }
-
         private boolean takesVariable(char letter) {
             if (!isVariable(letter)) {
                 return false;
@@ -391,12 +386,12 @@ public final class ReversalCourt {
             return true;
         }
 
-        private boolean takesLimit(char letter) {
+        private boolean takesLimit(char letter, int next) {
             if (!isVariable(letter)) {
                 return false;
             }
             formula.limits[current] = letter - 'x';
-            due = FORMULA;
+            due = next;
             return true;
         }
 
@@ -404,14 +399,13 @@ public final class ReversalCourt {
             if (letter != ')') {
                 return false;
             }
-            finish(current);
+            due = NOTHING;
             return true;
         }
 
         /** With a part those around it are whole, too, up to one that waits for more letters. */
-        private void finish(int part) {
-            int whole = part;
-            due = NOTHING;
+        private void finish() {
+            int whole = current;
             for (int turn = 0; turn < MOST_LETTERS && due == NOTHING; turn++) {
                 formula.weigh(whole);
                 current = around[whole];

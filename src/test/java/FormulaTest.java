@@ -180,6 +180,10 @@ public final class FormulaTest {
             so(!seventh.equals("exx"), seventh.repeat(6) + "x=x", 1, 0, 0, 0);
             tooMany(seventh.repeat(7) + "x=x");
         }
+        Trial court = Trial.ofNew();
+        court.page("AxExAxExAxExAxx=x").due(Trial.BAD_STATE, "isSo", 1, 0, 0, 0);
+        court.page("AxExAxExAxExx=x").due(true, "isSo", 1, 0, 0, 0);
+        court.principle("AxExAxExAxExx=x").page("Exx<x").due(false, "isSo", 1, 0, 0, 0);
     }
 
     private static void tooMany(String page) {

@@ -27,7 +27,8 @@ public final class NothingChangedTest {
         Trial court = Trial.ofNew();
         court.principle("AxEyx<y").principle("ExAyx<y").principle("Axx=x").principle("Exx=x");
         court.due(0, "rule", 1, 1).due(1, "rule", 6, 3).due(0, "model", 14).due(1, "model", 2);
-        court.due(0, "problem", 2, 2, 33).due(1, "problem", 2, 3, 0x24).due(2, "problem", 3, 1, 273);
+        court.due(0, "problem", 2, 2, 33).due(1, "problem", 2, 3, 0x24);
+        court.due(2, "problem", 3, 1, 273);
         return court.type("axyx<z");
     }
 

@@ -13,6 +13,7 @@ public final class PageTest {
         everyOtherSign();
         fortyLetters();
         blanks();
+        blanksAmidFormulas();
         faults();
         longPages();
         whatMayCome();
@@ -54,6 +55,17 @@ public final class PageTest {
         court.type("))").due(0, "fault").due(2, "blank").type("x<y").due(3, "fault");
         court.due(0, "sigma").due(3, "blank").due(-1, "sigma").due(-1, "pi").due(-1, "free");
         court.due(1, "letter", '!').due(1, "fault");
+    }
+
+    /** Whatever stood half typed, the next page is read from its own letters alone. */
+    private static void blanksAmidFormulas() {
+        Trial court = Trial.ofNew();
+        for (String half : new String[] {"Ax(x", "Ax(x<y&", "((x<y&!", "!(Exx<", "a", "(", "x)"}) {
+            court.page(half).page("x<y").due(3, "fault").due(0, "sigma").due(3, "free");
+            court.page(half).page("(Exx<z>!x=x)").due(12, "fault").due(2, "sigma").due(1, "pi");
+            court.due(5, "free").page(half + "<").page("(x<y").due(4, "fault");
+            court.due(Trial.NONE, "pi");
+        }
     }
 
     private static void faults() {

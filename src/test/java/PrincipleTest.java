@@ -112,6 +112,8 @@ public final class PrincipleTest {
         }
         court.due(Trial.BAD_STATE, "model", 1).due(Trial.BAD_STATE, "model", 0);
         court.due(Trial.BAD_ARGUMENT, "model", 2).due(10, "ofPrinciple", 0, 3);
+        court.principles(1).due(ReversalCourt.OPEN, "known", 1, 0).due(1, "open");
+        court.due(ReversalCourt.DOES_NOT, "known", 0, 1).due(0, "rule", 2, 0).due(0, "open");
     }
 
     private static void rulesAgainstModels() {

@@ -19,7 +19,9 @@ public final class ProblemTest {
         reductions();
         reductionsThatAreNone();
         codesOfUnusedAnswers();
+        unlikeSizes();
         largestReductions();
+        oneBehindAnother();
         wrongReductions();
         tales();
         Trial.end();
@@ -153,6 +155,31 @@ public final class ProblemTest {
         reducesBy(court, 1, 0, 12, 0);
         reducesBy(court, 3, 1, Trial.NONE, Trial.NONE, Trial.NONE);
         reducesBy(court, 3, 3, 15, 1, 0);
+    }
+
+    /** One of both has more instances, and the FORTH map takes the last ones. */
+    private static void unlikeSizes() {
+        Trial court = Trial.ofNew();
+        court.due(0, "problem", 1, 2, 2).due(1, "problem", 2, 2, CROSSED);
+        court.due(2, "problem", 3, 2, 0x122).due(3, "problem", 2, 2, ITS_OWN);
+        court.due(4, "problem", 3, 2, 0x123);
+        reducesBy(court, 0, 1, 1, 1);
+        reducesBy(court, 2, 3, 1, 0, 0, 1);
+        reducesBy(court, 3, 4, 1, 1, 2);
+        reducesBy(court, 4, 3, 1, 0, 0, 1);
+        reducesBy(court, 0, 4, 1, 2);
+    }
+
+    /** What one call found is nothing to the next one. */
+    private static void oneBehindAnother() {
+        Trial court = Trial.ofNew();
+        court.due(0, "problem", 4, 4, 0x8412).due(1, "problem", 1, 2, 2).due(2, "problem", 1, 1, 1);
+        for (String call : new String[] {"reduces", "reducesAnew"}) {
+            court.due(27, call, 0, 0).due(1, call, 1, 2).due(0, call, 2, 0);
+            court.due(27, call, 0, 0).due(1, call, 1, 2).due(Trial.NONE, call, 0, 1);
+            court.due(1, call, 1, 2).due(1, call, 1, 0);
+        }
+        court.due(2, "forth", 0, 0, 0).due(3, "forth", 0, 0, 1).due(0, "forth", 1, 2, 0);
     }
 
     private static void largestReductions() {

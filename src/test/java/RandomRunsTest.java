@@ -24,26 +24,15 @@ public final class RandomRunsTest {
         Trial.end();
     }
 
+    /** Of four runs three keep to calls of one kind, and the fourth mixes them. */
     private void calls() {
         while (reference.calls() < Trial.MOST_CALLS - CALLS_OF_A_TURN) {
-            switch (run % 4) {
-                case 0:
-                    formulaCalls();
-                    break;
-                case 1:
-                    principleCalls();
-                    break;
-                case 2:
-                    problemCalls();
-                    break;
-                default:
-                    mixedCalls();
-            }
+            turn(run % 4 == 3 ? below(3) : run % 4);
         }
     }
 
-    private void mixedCalls() {
-        switch (below(3)) {
+    private void turn(int kind) {
+        switch (kind) {
             case 0:
                 formulaCalls();
                 break;
