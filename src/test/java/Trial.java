@@ -15,6 +15,9 @@ final class Trial {
 
     private static int asked = 0;
     private static int wrong = 0;
+    private static String sentence = "";
+    private static int askedAheadOfSentence = 0;
+    private static int wrongAheadOfSentence = 0;
 
     private final Object subject;
     private int calls = 0;
@@ -104,8 +107,28 @@ final class Trial {
         return text.append(')').toString();
     }
 
+    /** What is checked from here on is due by these words of the document. */
+    static void sentence(String words) {
+        endSentence();
+        sentence = words;
+        askedAheadOfSentence = asked;
+        wrongAheadOfSentence = wrong;
+    }
+
+    private static void endSentence() {
+        if (sentence.isEmpty()) {
+            return;
+        }
+        int answers = asked - askedAheadOfSentence;
+        check(true, answers > 0, "something is checked by: " + sentence);
+        boolean held = wrong == wrongAheadOfSentence;
+        System.out.println((held ? "  held, " : "  BROKEN, ") + answers + " answers: " + sentence);
+        sentence = "";
+    }
+
     /** Has to be the last call of a test's main. */
     static void end() {
+        endSentence();
         System.out.println(asked + " answers, " + wrong + " of them wrong");
         if (wrong != 0 || asked == 0) {
             System.exit(1);
