@@ -1,4 +1,4 @@
-/** The sentences on classes, free variables and worlds that name a boundary case: promises 5 to 8. */
+/** The sentences on classes, free variables and worlds with a boundary case: promises 5 to 8. */
 public final class FormulaBoundsTest {
     private static final int LARGEST = 5;
     private static final String VARIABLES = "xyz";

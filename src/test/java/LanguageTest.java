@@ -48,14 +48,17 @@ public final class LanguageTest {
                 .replaceAll("\"[^\"\n]*\"", "\"\"");
     }
 
-    /** Rules 1 to 8 and 12, in the plain form that this program keeps to: no library but little. */
+    /** What rules 1 to 6 and 13 leave out, wherever it stands. */
     private static void wordsLeftOut(String code) {
         String[] words = {
-            "\\bpackage\\b", "\\bimport\\b", "\\bprotected\\b", "->", "::", "\\bsynchronized\\b",
-            "\\bassert\\b", "\\btry\\b", "\\bcatch\\b", "\\bfinally\\b", "\\binstanceof\\b",
-            "\\bstatic\\s*\\{", "Exact\\b", "\\bSystem\\b", "\\bThread\\b", "\\bObject\\b",
-            "\\bnull\\b", "\\bRandom\\b", "\\bString\\.format\\b", "\\bhashCode\\b",
-            "\\btoString\\b", "\\bextends\\b", "\\bimplements\\b", "\\bnative\\b", "\\bvolatile\\b",
+            "\\bpackage\\b", "\\bprotected\\b", "::", "\\bsynchronized\\b", "\\bassert\\b",
+            "\\bfinally\\b", "\\bstatic\\s*\\{", "Exact\\b", "\\bThread\\b", "\\bObject\\b",
+            "\\bRandom\\b", "\\brandom\\b", "\\bformat\\b", "\\bhashCode\\b", "\\bnative\\b",
+            "\\bvolatile\\b", "\\bThrowable\\b", "\\bException\\b", "\\bNullPointerException\\b",
+            "\\bArrayIndexOutOfBoundsException\\b", "\\bClassCastException\\b",
+            "\\bNegativeArraySizeException\\b", "\\bArrayStoreException\\b",
+            "(?m)^(?!\\s*(case|default)\\b).*->", "\\bSystem\\.(?!arraycopy\\b)",
+            "\\bimport\\s+(?!java\\.util\\.)",
         };
         for (String word : words) {
             Trial.check(false, java.util.regex.Pattern.compile(word).matcher(code).find(),
@@ -98,8 +101,6 @@ public final class LanguageTest {
     private static void shapeOf(Class<?> one, Set<String> face) {
         boolean outside = one == ReversalCourt.class;
         Trial.check(true, outside || Modifier.isStatic(one.getModifiers()), one + " is static");
-        Trial.check(true, outside || one.getDeclaredClasses().length == 0,
-                one + " has no classes inside");
         int fields = 0;
         for (Field field : one.getDeclaredFields()) {
             int modifiers = field.getModifiers();

@@ -186,7 +186,8 @@ public final class PageBoundsTest {
 
     private static void blankedPages() {
         Trial.sentence("Promise 3: Makes the PAGE empty. Returns how many letters it had.");
-        for (String page : new String[] {"!".repeat(37) + "x<y", "x<y".repeat(14), "(".repeat(40)}) {
+        String[] pages = {"!".repeat(37) + "x<y", "x<y".repeat(14), "(".repeat(40)};
+        for (String page : pages) {
             for (int length = 0; length <= MOST; length++) {
                 Trial court = Trial.ofNew().type(page.substring(0, length)).due(length, "blank");
                 court.due(0, "fault").due(Trial.NONE, "sigma").due(Trial.NONE, "free");
@@ -210,6 +211,24 @@ public final class PageBoundsTest {
         }
         faultAt(39, "!".repeat(38) + "xx");
         faultAt(39, "(".repeat(39) + ")");
+        faultsOfEachKind();
+    }
+
+    /** Ahead of each kind of place, and the letters that some formula has there. */
+    private static void faultsOfEachKind() {
+        String[] ahead = {"", "x", "z<", "A", "E", "a", "e", "ay", "ey", "!", "(", "Ax", "axy",
+            "(x<y", "(x<y&", "(x<y&x<y", "x<y", "(x<y>y=z)", "!!x=x", "Axx=x"};
+        String starts = "xyzAEae!(";
+        String[] letters = {starts, "<=", VARIABLES, VARIABLES, VARIABLES, VARIABLES, VARIABLES,
+            VARIABLES, VARIABLES, starts, starts, starts, starts,
+            "&|>", starts, ")", "", "", "", ""};
+        for (int place = 0; place < ahead.length; place++) {
+            for (char letter : LETTERS.toCharArray()) {
+                boolean some = letters[place].indexOf(letter) >= 0;
+                int length = ahead[place].length();
+                faultAt(some ? length + 1 : length, ahead[place] + letter);
+            }
+        }
     }
 
     private static void faultsBehindFormulas() {
@@ -225,8 +244,8 @@ public final class PageBoundsTest {
 
     private static void longerThanAPage() {
         Trial.sentence("Promise 4: be it longer than a PAGE, too");
-        for (String start : new String[] {"!", "(", "Ax", "Ez", "axy", "exx", "(x<y&", "!(", "((z=z|",
-            "(!Ax"}) {
+        String[] starts = {"!", "(", "Ax", "Ez", "axy", "exx", "(x<y&", "!(", "((z=z|", "(!Ax"};
+        for (String start : starts) {
             String page = start.repeat(MOST).substring(0, MOST);
             faultAt(MOST, page);
             formula(false, page);

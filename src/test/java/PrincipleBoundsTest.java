@@ -1,4 +1,4 @@
-/** The sentences on principles, rules and models that name a boundary case: promises 9 to 12, 18. */
+/** The sentences on principles, rules and models with a boundary case: promises 9 to 12, 18. */
 public final class PrincipleBoundsTest {
     private static final int MOST = 10;
     private static final int MOST_RULES = 30;
@@ -118,7 +118,8 @@ public final class PrincipleBoundsTest {
 
     private static void conclusionAmongPremises() {
         Trial.sentence("a conclusion that is not one of these"
-                + " / Promise 10: Throws IllegalArgumentException if premises ... has the conclusion");
+                + " / Promise 10: Throws IllegalArgumentException if premises ... has the"
+                + " conclusion");
         Trial court = Trial.ofNew().principles(10);
         for (int conclusion = 0; conclusion < 10; conclusion++) {
             court.due(Trial.BAD_ARGUMENT, "rule", 1 << conclusion, conclusion);

@@ -128,7 +128,8 @@ public final class ProblemBoundsTest {
                 Trial court = Trial.ofNew();
                 for (int bit = 0; bit < 32; bit++) {
                     if ((all >>> bit & 1) == 0) {
-                        court.due(Trial.BAD_ARGUMENT, "problem", instances, answers, all | 1 << bit);
+                        court.due(Trial.BAD_ARGUMENT, "problem", instances, answers,
+                                all | 1 << bit);
                         court.due(Trial.BAD_ARGUMENT, "problem", instances, answers,
                                 byAll(instances, 1) | 1 << bit);
                     }
@@ -374,7 +375,8 @@ public final class ProblemBoundsTest {
 
     private static void products() {
         Trial.sentence("The PRODUCT ... has an instance for each instance of the first one and of"
-                + " the second one ...; likewise answers; an answer solves an instance, if both do");
+                + " the second one ...; likewise answers; an answer solves an instance, if both"
+                + " do.");
         Trial court = Trial.ofNew().due(0, "problem", 1, 4, 5).due(1, "problem", 4, 1, 0x1111);
         court.due(2, "problem", 2, 2, 0x31).due(3, "product", 0, 1).due(4, "product", 1, 0);
         tells(court, 3, 4, 4, 0x5555);

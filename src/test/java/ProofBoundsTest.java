@@ -185,7 +185,8 @@ public final class ProofBoundsTest {
     }
 
     private static void proofsWithoutPrinciple() {
-        Trial.sentence("Promise 13: Throws IndexOutOfBoundsException if there is no such PRINCIPLE");
+        Trial.sentence("Promise 13: Throws IndexOutOfBoundsException if there is no such"
+                + " PRINCIPLE");
         for (int howMany : new int[] {0, 1, 9, 10}) {
             Trial court = Trial.ofNew().principles(howMany);
             for (int off : Edges.noneOf(howMany)) {
